@@ -490,6 +490,7 @@ public final class CrowdReports {
         switch (doing / 100) {
             case 1: return first == 0 && trial.enter(second);
             case 2: return first == 0 && trial.depart(second);
+            // What run answers is never less than 0: TICKS that are done can be.
             case 3: return ticks >= 1 && ticks <= PASS_MOST && trial.run(ticks) >= 0;
             case 4: return isMember(first) && trial.kind[first] == second;
             case 5: return isMember(first) && isMember(second) && trial.knows(first, second);
@@ -547,12 +548,9 @@ public final class CrowdReports {
         final int[] shut = new int[MEMBERS];
         final int[] lastHeard = new int[MEMBERS * MEMBERS];
 
+        /** All as at first, but for SIZE, RATE, MIN and THE LOT, which a MEETING tells itself. */
         void restart() {
-            size = 1;
-            rate = 1;
-            min = 1;
             clock = 0;
-            lot = 0;
             reports = 0;
             byes = 0;
             for (int m = 0; m < MEMBERS; m++) {
@@ -758,8 +756,8 @@ public final class CrowdReports {
         void forgetOld(int member) {
             int longest = 5 * spanOf(countOf(member));
             for (int other = 0; other < MEMBERS; other++) {
-                boolean old = clock - lastHeard[member * MEMBERS + other] > longest;
-                if (old && knows(member, other)) {
+                int ago = clock - lastHeard[member * MEMBERS + other];
+                if (knows(member, other) && ago > longest) {
                     known[member] &= ~(1 << other);
                 }
             }

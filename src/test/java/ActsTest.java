@@ -98,6 +98,15 @@ public final class ActsTest {
         member(x, 1, 1, 0, 1, clock);
     }
 
+    private static void byeByCount() {
+        CHECK.due("COUNT 3: at once", Check.met("M911000j0j1j299999").leave(0), 0);
+        CrowdReports x = Check.met("M911000j0j1j2j39999999");
+        CHECK.due("COUNT 4", x.member(0, 2), 4);
+        CHECK.holds("COUNT 4: it waits", x.leave(0) > x.about(3));
+        CHECK.due("LEAVING", x.about(8), 1);
+        CHECK.due("no BYE", x.about(6), 0);
+    }
+
     private static void byeThatDoesNotReach() {
         CrowdReports x = Check.met("M911000j0j1j299999");
         x.turn(1, 0);
@@ -278,6 +287,7 @@ public final class ActsTest {
         waits();
         refusedActs();
         byeAtOnce();
+        byeByCount();
         byeThatDoesNotReach();
         byeOfAStranger();
         leaving();

@@ -76,6 +76,23 @@ public final class AskedTest {
         CHECK.holds("one that is AWAY is KNOWN still", x.about(9) > 0);
     }
 
+    /** COUNT is 3, so T is 27: one that is AWAY is forgotten 136 TICKS behind its last REPORT. */
+    private static void atRestAtTheEdge() {
+        CrowdReports x = Check.met("M911000j0j1j29999999");
+        CHECK.due("all know all", x.about(9), 0);
+        x.turn(1, 0);
+        x.leave(1);
+        int last = x.heard(0, 1);
+        while (x.about(3) < last + 36) {
+            x.pass(1);
+        }
+        CHECK.due("at rest behind 100", x.about(9), -9);
+        x.pass(1);
+        CHECK.due("at rest behind 99", x.about(9), 99);
+        x.pass(1);
+        CHECK.due("at rest behind 98", x.about(9), 98);
+    }
+
     private static void jitters() {
         CrowdReports x = new CrowdReports();
         CHECK.due("one time", x.jitter(1, 99), 0);
@@ -165,6 +182,15 @@ public final class AskedTest {
         judged(x, 1, 999, 0);
     }
 
+    /** TICKS can be also where nobody sends; each row begins with how all is now. */
+    private static void judgedByNobody() {
+        CrowdReports x = new CrowdReports();
+        judged(x, 1, 305, -9);
+        CHECK.due("join is done", x.judge(2, 102412), 1);
+        CHECK.due("in that row alone", x.judge(2, 102421), -9);
+        CHECK.due("and not behind it", x.judge(1, 420), -9);
+    }
+
     private static void judgedInRows() {
         CrowdReports x = Check.met("M111000j0j19");
         judged(x, 2, 102102, 1);
@@ -207,9 +233,11 @@ public final class AskedTest {
         aheadIsAsPassed();
         crowdOfTwo();
         atRest();
+        atRestAtTheEdge();
         jitters();
         rounds();
         judgedAlone();
+        judgedByNobody();
         judgedInRows();
         judgeRefused();
         CHECK.end();

@@ -52,6 +52,14 @@ public final class TextTest {
         CHECK.due("fault: only not at its end", x.fault(), 1);
     }
 
+    private static void wipedLettersAreGone() {
+        CrowdReports x = Check.written("M111000j0");
+        for (int n = 0; n <= 8; n++) {
+            Check.write(x, "M111000j0".substring(0, n));
+            CHECK.due("fault of the first " + n, x.fault(), n == 7 ? -9 : n);
+        }
+    }
+
     private static void faults() {
         String head = "M111000";
         for (int n = 0; n < 7; n++) {
@@ -135,6 +143,8 @@ public final class TextTest {
         x.keep(1);
         x.see(3, 1);
         x.seed(77);
+        x.leave(4);
+        x.crowd(99);
         CHECK.due("meeting", x.meeting(), 9);
         CHECK.due("again 0 behind a meeting", x.again(0), -3);
         CHECK.due("again 1 behind a meeting", x.again(1), -3);
@@ -161,6 +171,7 @@ public final class TextTest {
     public static void main(String[] args) {
         newObject();
         writeAndWipe();
+        wipedLettersAreGone();
         faults();
         faultsWhileLeaving();
         lengthIsSetAside();
