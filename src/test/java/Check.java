@@ -50,6 +50,17 @@ final class Check {
         }
     }
 
+    /** THE LOT behind one DRAW, told once more. */
+    static int nextLot(int lot) {
+        return (int) ((25173L * lot + 13849L) % 65536L);
+    }
+
+    static void passAll(CrowdReports x, int ticks) {
+        for (int left = ticks; left > 0; left -= 30) {
+            x.pass(Math.min(30, left));
+        }
+    }
+
     /** All that can be asked without a change, as one text: two objects are told apart by it. */
     static String all(CrowdReports x) {
         StringBuilder told = new StringBuilder();
