@@ -236,37 +236,46 @@ public final class ActsTest {
         return m;
     }
 
-    private static void undone() {
+    /** The first so many of 20 ACTS of all kinds, in a new object. */
+    private static CrowdReports acted(int acts) {
         CrowdReports x = Check.met("M221007j0j1j2j3999");
-        Check.write(x, "M1");
-        x.see(4, 4);
-        String[] was = new String[20];
-        for (int i = 0; i < 20; i++) {
-            was[i] = Check.kept(x);
-            if (i % 5 == 0) {
-                x.pass(1 + i);
-            } else if (i % 5 == 1) {
-                x.turn(i % 6, (i + 1) % 6);
-            } else if (i % 5 == 2) {
-                x.set(i % 3, 1 + i % 9);
-            } else if (i % 5 == 3) {
-                x.join(firstAway(x));
-            } else {
-                x.leave(i / 5);
+        for (int i = 0; i < acts; i++) {
+            switch (i % 5) {
+                case 0 -> x.pass(1 + i);
+                case 1 -> x.turn(i % 6, (i + 1) % 6);
+                case 2 -> x.set(i % 3, 1 + i % 9);
+                case 3 -> x.join(firstAway(x));
+                default -> x.leave(i / 5);
             }
             CHECK.due("ACTS", x.about(10), Math.min(14, i + 1));
         }
-        x.seed(12);
+        return x;
+    }
+
+    private static void undone() {
+        for (int undone = 1; undone <= 14; undone++) {
+            CrowdReports x = acted(20);
+            for (int i = 1; i <= undone; i++) {
+                CHECK.due("undo", x.undo(), 14 - i);
+            }
+            CHECK.holds("all is as it was ahead of the last " + undone,
+                Check.kept(x).equals(Check.kept(acted(20 - undone))));
+        }
+    }
+
+    private static void notUndone() {
+        CrowdReports x = acted(20);
+        Check.write(x, "M1");
+        x.see(4, 4);
         x.see(5, 5);
-        x.write('x');
-        for (int i = 19; i >= 6; i--) {
-            CHECK.due("undo", x.undo(), i - 6);
-            CHECK.holds("all is as it was ahead of ACT " + i, was[i].equals(Check.kept(x)));
+        x.seed(12);
+        for (int i = 13; i >= 0; i--) {
+            CHECK.due("undo", x.undo(), i);
         }
         CHECK.due("no more", x.undo(), -3);
-        CHECK.holds("as it was", was[6].equals(Check.kept(x)));
+        CHECK.holds("as it was", Check.kept(x).equals(Check.kept(acted(6))));
         CHECK.due("SEEN is not undone", x.about(11), 2);
-        CHECK.due("THE TEXT is not undone", x.about(12), 3);
+        CHECK.due("THE TEXT is not undone", x.about(12), 2);
         CHECK.due("THE SEED is not undone", x.seed(0), 12);
         x.join(5);
         CHECK.due("an ACT behind undo", x.about(10), 1);
@@ -296,6 +305,7 @@ public final class ActsTest {
         ways();
         sizes();
         undone();
+        notUndone();
         passes();
         CHECK.end();
     }

@@ -1,6 +1,7 @@
 /** Promises 16 to 20, and AT REST: ahead, crowd, jitter, round, judge. */
 public final class AskedTest {
     private static final Check CHECK = new Check();
+    private static final String TWO_LEAVE = "M331123j0j1j2j3j4j5999l1l2";
 
     /** The REPORTS of this MEETING, found by hand in ActsTest, are at 6, 19 and 22. */
     private static void aheadByHand() {
@@ -22,35 +23,31 @@ public final class AskedTest {
     }
 
     private static void aheadIsAsPassed() {
-        CrowdReports x = Check.met("M331123j0j1j2j3j4j5999l1l2");
-        CHECK.holds("some are LEAVING", x.about(8) != 0);
-        int most = 0;
+        CHECK.holds("some are LEAVING", Check.met(TWO_LEAVE).about(8) != 0);
         int firstRest = -9;
-        int[] reports = new int[100];
-        int[] byes = new int[100];
-        int[] there = new int[100];
-        int[] lots = new int[100];
-        int[] crowds = new int[100];
-        CrowdReports y = Check.met("M331123j0j1j2j3j4j5999l1l2");
         for (int k = 0; k <= 99; k++) {
-            reports[k] = y.about(5);
-            byes[k] = y.about(6);
-            there[k] = y.about(7);
-            lots[k] = y.about(4);
-            crowds[k] = most;
+            CrowdReports x = Check.met(TWO_LEAVE);
+            CrowdReports y = Check.met(TWO_LEAVE);
+            Check.passAll(y, k);
+            CHECK.due("REPORTS ahead " + k, x.ahead(k, 0), y.about(5));
+            CHECK.due("BYES ahead " + k, x.ahead(k, 1), y.about(6));
+            CHECK.due("THERE ahead " + k, x.ahead(k, 2), y.about(7));
+            CHECK.due("THE LOT ahead " + k, x.ahead(k, 3), y.about(4));
             if (firstRest < 0 && y.about(9) == 0) {
                 firstRest = k;
             }
+        }
+        CHECK.due("AT REST", Check.met(TWO_LEAVE).about(9), firstRest);
+    }
+
+    private static void crowdIsAsPassed() {
+        CrowdReports x = Check.met(TWO_LEAVE);
+        CrowdReports y = Check.met(TWO_LEAVE);
+        int most = 0;
+        for (int k = 1; k <= 99; k++) {
             most = Math.max(most, y.pass(1));
+            CHECK.due("crowd " + k, x.crowd(k), most);
         }
-        for (int k = 0; k <= 99; k++) {
-            CHECK.due("ahead " + k, x.ahead(k, 0), reports[k]);
-            CHECK.due("ahead " + k, x.ahead(k, 1), byes[k]);
-            CHECK.due("ahead " + k, x.ahead(k, 2), there[k]);
-            CHECK.due("ahead " + k, x.ahead(k, 3), lots[k]);
-            CHECK.due("crowd " + k, x.crowd(k), k == 0 ? -2 : crowds[k]);
-        }
-        CHECK.due("AT REST", x.about(9), firstRest);
     }
 
     /** Both have their first DUE at 1, and wait 1 by what is drawn then. */
@@ -135,102 +132,105 @@ public final class AskedTest {
         CHECK.due("far out", x.round(Integer.MIN_VALUE, Integer.MAX_VALUE, 2), -2);
     }
 
-    private static void judged(CrowdReports x, int n, long row, int want) {
+    /** By a new object with this MEETING: to look at all takes many of the calls that it has. */
+    private static void judged(String text, int n, long row, int want) {
+        CrowdReports x = Check.met(text);
         String before = Check.all(x);
         CHECK.due("judge " + n + " " + row, x.judge(n, row), want);
         CHECK.holds("judge changes nothing", before.equals(Check.all(x)));
     }
 
     private static void judgedAlone() {
-        CrowdReports x = Check.met("M111000j0j19");
-        judged(x, 1, 102, -9);
-        judged(x, 1, 105, -9);
-        judged(x, 1, 106, 0);
-        judged(x, 1, 101, 0);
-        judged(x, 1, 112, 0);
-        judged(x, 1, 200, -9);
-        judged(x, 1, 202, 0);
-        judged(x, 1, 206, 0);
-        judged(x, 1, 210, 0);
-        judged(x, 1, 301, -9);
-        judged(x, 1, 330, -9);
-        judged(x, 1, 300, 0);
-        judged(x, 1, 331, 0);
-        judged(x, 1, 401, -9);
-        judged(x, 1, 400, 0);
-        judged(x, 1, 402, 0);
-        judged(x, 1, 420, -9);
-        judged(x, 1, 423, 0);
-        judged(x, 1, 460, 0);
-        judged(x, 1, 501, -9);
-        judged(x, 1, 502, 0);
-        judged(x, 1, 500, 0);
-        judged(x, 1, 506, 0);
-        judged(x, 1, 560, 0);
-        judged(x, 1, 602, -9);
-        judged(x, 1, 601, 0);
-        judged(x, 1, 620, -9);
-        judged(x, 1, 621, 0);
-        judged(x, 1, 661, 0);
-        judged(x, 1, 710, -9);
-        judged(x, 1, 711, 0);
-        judged(x, 1, 716, 0);
-        judged(x, 1, 761, 0);
-        judged(x, 1, 0, 0);
-        judged(x, 1, 1, 0);
-        judged(x, 1, 801, 0);
-        judged(x, 1, 999, 0);
+        String two = "M111000j0j19";
+        judged(two, 1, 102, -9);
+        judged(two, 1, 105, -9);
+        judged(two, 1, 106, 0);
+        judged(two, 1, 101, 0);
+        judged(two, 1, 112, 0);
+        judged(two, 1, 200, -9);
+        judged(two, 1, 202, 0);
+        judged(two, 1, 206, 0);
+        judged(two, 1, 210, 0);
+        judged(two, 1, 301, -9);
+        judged(two, 1, 330, -9);
+        judged(two, 1, 300, 0);
+        judged(two, 1, 331, 0);
+        judged(two, 1, 401, -9);
+        judged(two, 1, 400, 0);
+        judged(two, 1, 402, 0);
+        judged(two, 1, 420, -9);
+        judged(two, 1, 423, 0);
+        judged(two, 1, 460, 0);
+        judged(two, 1, 501, -9);
+        judged(two, 1, 502, 0);
+        judged(two, 1, 500, 0);
+        judged(two, 1, 506, 0);
+        judged(two, 1, 560, 0);
+        judged(two, 1, 602, -9);
+        judged(two, 1, 601, 0);
+        judged(two, 1, 620, -9);
+        judged(two, 1, 621, 0);
+        judged(two, 1, 661, 0);
+        judged(two, 1, 710, -9);
+        judged(two, 1, 711, 0);
+        judged(two, 1, 716, 0);
+        judged(two, 1, 761, 0);
+        judged(two, 1, 0, 0);
+        judged(two, 1, 1, 0);
+        judged(two, 1, 801, 0);
+        judged(two, 1, 999, 0);
     }
 
     /** TICKS can be also where nobody sends; each row begins with how all is now. */
     private static void judgedByNobody() {
+        judged("M111000", 1, 305, -9);
         CrowdReports x = new CrowdReports();
-        judged(x, 1, 305, -9);
         CHECK.due("join is done", x.judge(2, 102412), 1);
         CHECK.due("in that row alone", x.judge(2, 102421), -9);
         CHECK.due("and not behind it", x.judge(1, 420), -9);
     }
 
     private static void judgedInRows() {
-        CrowdReports x = Check.met("M111000j0j19");
-        judged(x, 2, 102102, 1);
-        judged(x, 3, 102202102L, -9);
-        judged(x, 4, 102202102421L, -9);
-        judged(x, 4, 102202102420L, 3);
-        judged(x, 4, 102309502612L, 3);
-        judged(x, 4, 102309502603L, -9);
-        judged(x, 3, 710330501L, 2);
-        judged(x, 4, 710710330501L, -9);
-        judged(x, 2, 201501, 1);
-        judged(x, 2, 201410, -9);
-        judged(x, 4, 401401401401L, -9);
-        judged(x, 4, 401401401400L, 3);
-        judged(x, 4, 401, 0);
-        CrowdReports y = Check.met("M911000j0j1j2j3j4j5999999999");
-        judged(y, 2, 203432, -9);
-        judged(y, 2, 203103, 1);
-        judged(y, 2, 203203, 1);
-        judged(y, 3, 203330430, -9);
+        String two = "M111000j0j19";
+        judged(two, 2, 102102, 1);
+        judged(two, 3, 102202102L, -9);
+        judged(two, 4, 102202102421L, -9);
+        judged(two, 4, 102202102420L, 3);
+        judged(two, 4, 102309502612L, 3);
+        judged(two, 4, 102309502603L, -9);
+        judged(two, 3, 710330501L, 2);
+        judged(two, 4, 710710330501L, -9);
+        judged(two, 2, 201501, 1);
+        judged(two, 2, 201410, -9);
+        judged(two, 4, 401401401401L, -9);
+        judged(two, 4, 401401401400L, 3);
+        judged(two, 4, 401, 0);
+        String six = "M911000j0j1j2j3j4j5999999999";
+        judged(six, 2, 203432, -9);
+        judged(six, 2, 203103, 1);
+        judged(six, 2, 203203, 1);
+        judged(six, 3, 203330430, -9);
     }
 
     private static void judgeRefused() {
-        CrowdReports x = new CrowdReports();
-        judged(x, 0, 0, -2);
-        judged(x, 5, 0, -2);
-        judged(x, -1, 101, -2);
-        judged(x, 1, -1, -2);
-        judged(x, 4, Long.MIN_VALUE, -2);
-        judged(x, 4, Long.MAX_VALUE, -2);
+        String nobody = "M111000";
+        judged(nobody, 0, 0, -2);
+        judged(nobody, 5, 0, -2);
+        judged(nobody, -1, 101, -2);
+        judged(nobody, 1, -1, -2);
+        judged(nobody, 4, Long.MIN_VALUE, -2);
+        judged(nobody, 4, Long.MAX_VALUE, -2);
         for (int n = 1; n <= 4; n++) {
             long more = (long) Math.pow(1000, n);
-            judged(x, n, more, -2);
-            judged(x, n, more - 1, 0);
+            judged(nobody, n, more, -2);
+            judged(nobody, n, more - 1, 0);
         }
     }
 
     public static void main(String[] args) {
         aheadByHand();
         aheadIsAsPassed();
+        crowdIsAsPassed();
         crowdOfTwo();
         atRest();
         atRestAtTheEdge();

@@ -2,7 +2,9 @@ import java.util.Random;
 
 /** Runs of calls, drawn by a fixed seed, with the answers of Model: every promise at once. */
 public final class ModelTest {
-    private static final int RUNS = 160, CALLS = 512;
+    private static final int RUNS = 1500;
+    /** An object answers as due for so many calls; a look at all and a meet() make less than LAST. */
+    private static final int CALLS = 512, LAST = 220;
     private static final int[] WRONG = {-1, 6, 7, 255, Integer.MIN_VALUE, Integer.MAX_VALUE};
 
     private final Random random;
@@ -10,6 +12,7 @@ public final class ModelTest {
     private final CrowdReports x = new CrowdReports();
     private final Model y = new Model();
     private String call = "";
+    private int made = 0;
 
     private ModelTest(long seed, Check check) {
         this.random = new Random(seed);
@@ -29,6 +32,7 @@ public final class ModelTest {
     }
 
     private void due(long got, long want) {
+        made++;
         check.due(call, got, want);
     }
 
@@ -80,8 +84,19 @@ public final class ModelTest {
         }
         long got = x.seed(0);
         due(got, y.seed(0));
-        x.seed(got);
-        y.seed(got);
+        due(x.seed(got), y.seed(got));
+    }
+
+    private void glance() {
+        int m = who();
+        int o = who();
+        int what = from(0, 12);
+        due(x.about(what), y.about(what));
+        due(x.member(m, what), y.member(m, what));
+        what = upTo(5);
+        due(x.member(m, what), y.member(m, what));
+        due(x.heard(m, o), y.heard(m, o));
+        due(x.way(m, o), y.way(m, o));
     }
 
     private long row(int figures) {
@@ -220,18 +235,19 @@ public final class ModelTest {
         if (number % 4 != 0) {
             meet();
         }
-        for (int i = 0; i < CALLS / 8; i++) {
+        while (made < CALLS - LAST) {
             act();
             if (upTo(3) == 0) {
                 ask();
-                call = "behind " + call;
             }
-            look();
+            call = "behind " + call;
+            glance();
             if (upTo(40) == 0) {
                 meet();
-                look();
             }
         }
+        look();
+        check.holds("512 calls at most, not " + made, made <= CALLS);
     }
 
     public static void main(String[] args) {

@@ -126,14 +126,13 @@ public final class SharesTest {
 
     /** 0 alone is there and sends in each TICK: one BYE if it leaves, two REPORTS if one joins. */
     private static void drawnOnce() {
-        CrowdReports x = Check.met("M111000j09");
-        String before = Check.kept(x);
         int left = 0;
         int joined = 0;
         for (long seed = 0; seed < 3000; seed++) {
             int v = (int) ((seed * 6364136223846793005L + 1442695040888963407L) >>> 33);
             boolean acts = v % 8 == 0;
             boolean joins = acts && v / 8 % 6 != 0;
+            CrowdReports x = Check.met("M111000j09");
             x.seed(seed);
             int got = x.drawn(1);
             // The one that joined HEARS 0 in the same TICK, so its REPORT may wait by COUNT 2.
@@ -142,6 +141,15 @@ public final class SharesTest {
             joined += joins && got == 2 ? 1 : 0;
         }
         CHECK.holds("some left, some joined and sent", left > 0 && joined > 0);
+    }
+
+    private static void drawnChangesNothing() {
+        CrowdReports x = Check.met("M111000j09");
+        String before = Check.kept(x);
+        for (long seed = 0; seed < 100; seed++) {
+            x.seed(seed);
+            x.drawn(40);
+        }
         CHECK.holds("nothing changes but THE SEED", before.equals(Check.kept(x)));
         CHECK.due("no ACT", x.about(10), 0);
     }
@@ -180,6 +188,7 @@ public final class SharesTest {
         chanceRefused();
         seeds();
         drawnOnce();
+        drawnChangesNothing();
         drawnAsActs();
         CHECK.end();
     }

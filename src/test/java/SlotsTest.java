@@ -6,28 +6,36 @@ public final class SlotsTest {
         CrowdReports x = Check.met("M221007j0j1j2j3999l0");
         x.turn(1, 2);
         x.set(0, 3);
-        String first = Check.kept(x);
+        String kept = Check.kept(x);
         CHECK.due("keep 0", x.keep(0), 27);
         CHECK.due("keep is no ACT", x.about(10), 2);
+        x.pass(7);
+        x.turn(1, 2);
+        CHECK.due("again 0", x.again(0), 27);
+        CHECK.holds("all is as it was kept", kept.equals(Check.kept(x)));
+        CHECK.due("no ACTS", x.about(10), 0);
+        CHECK.due("undo", x.undo(), -3);
+        x.pass(3);
+        CHECK.due("again 0 once more", x.again(0), 27);
+        CHECK.holds("what was kept does not go on", kept.equals(Check.kept(x)));
+    }
+
+    private static void bothSlots() {
+        CrowdReports x = Check.met("M221007j0j1j2j3999l0");
+        CHECK.due("keep 0", x.keep(0), 27);
         x.pass(5);
         x.join(5);
         String second = Check.kept(x);
         CHECK.due("keep 1", x.keep(1), 32);
         x.pass(7);
-        x.turn(1, 2);
         CHECK.due("again 0", x.again(0), 27);
-        CHECK.holds("all is as it was kept", first.equals(Check.kept(x)));
-        CHECK.due("no ACTS", x.about(10), 0);
-        CHECK.due("undo", x.undo(), -3);
-        x.pass(3);
-        CHECK.due("again 0 once more", x.again(0), 27);
-        CHECK.holds("what was kept does not go on", first.equals(Check.kept(x)));
         CHECK.due("again 1", x.again(1), 32);
         CHECK.holds("the other one", second.equals(Check.kept(x)));
         x.pass(1);
         CHECK.due("keep 0 anew", x.keep(0), 33);
         x.pass(1);
         CHECK.due("again what was kept last", x.again(0), 33);
+        CHECK.due("again the other one", x.again(1), 32);
     }
 
     private static void notKept() {
@@ -69,6 +77,7 @@ public final class SlotsTest {
 
     public static void main(String[] args) {
         keptAndGoneOn();
+        bothSlots();
         notKept();
         notUndone();
         refused();
